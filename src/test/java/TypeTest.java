@@ -1,0 +1,77 @@
+/** Promise 2: which characters TEXT takes, how many, and that each call that takes it empties it. */
+public final class TypeTest {
+    public static void main(String[] args) {
+        codes();
+        length();
+        emptied();
+        Check.end();
+    }
+
+    private static void codes() {
+        for (int code = 0; code < 65536; code++) {
+            MarkerText x = new MarkerText();
+            boolean due = code >= 32 && code <= 126;
+            if (x.type((char) code) != due) {
+                Check.due("type of code " + code, !due, due);
+            }
+        }
+        Check refused = new Check();
+        refused.type("a");
+        Check.due("31", refused.x.type((char) 31), false);
+        Check.due("127", refused.x.type((char) 127), false);
+        Check.due("10", refused.x.type('\n'), false);
+        Check.due("0", refused.x.type((char) 0), false);
+        Check.due("65535", refused.x.type((char) 65535), false);
+        refused.name("b", 0, 0);
+        refused.ill("a=='1'", 0);
+        refused.condition("ab=='1'", 0);
+    }
+
+    private static void length() {
+        Check check = new Check();
+        check.type(" ".repeat(156) + "true");
+        Check.due("the 161st", check.x.type('x'), false);
+        Check.due("the 161st again", check.x.type(' '), false);
+        check.condition("", 0);
+        Check.due("printed", check.printed(0), "true");
+        check.type(" ".repeat(160));
+        check.ill("", 160);
+        Check.due("room again", check.x.type('t'), true);
+    }
+
+    private static void emptied() {
+        Check check = Check.withNames();
+        check.name("x1", 0, Check.ILLEGAL_ARGUMENT);
+        check.ill("", 0);
+        check.name("x", 2, Check.ILLEGAL_ARGUMENT);
+        check.ill("", 0);
+        check.value("X", 0, Check.ILLEGAL_ARGUMENT);
+        check.ill("", 0);
+        check.value("x", 9, Check.ILLEGAL_ARGUMENT);
+        check.ill("", 0);
+        check.give("X", 0, Check.ILLEGAL_ARGUMENT);
+        check.ill("", 0);
+        check.give("x", -1, Check.ILLEGAL_ARGUMENT);
+        check.ill("", 0);
+        check.give("x", 0);
+        check.ill("", 0);
+        check.value("x", 0, 1);
+        check.ill("", 0);
+        check.ill("what", 0);
+        check.ill("", 0);
+        check.condition("true", 0);
+        check.ill("", 0);
+        check.type("tr");
+        check.x.place();
+        check.x.holds(0);
+        check.x.ever(0);
+        check.x.implies(0, 0);
+        check.x.apart(0, 0);
+        check.x.classes(1);
+        check.x.many(0);
+        check.x.inClass(0, 0);
+        check.x.sample(0, 0);
+        check.x.printed(0, 0);
+        check.condition("ue", 1);
+    }
+}

@@ -84,7 +84,7 @@ public final class MarkerText {
     public int condition() throws IllegalArgumentException, IllegalStateException {
         Reader reader = new Reader(takeText(), names);
         Condition read = reader.readWhole();
-        illPlace = reader.ill;
+        illPlace = read == null ? reader.at : NONE;
         if (read == null) {
             throw new IllegalArgumentException("the text is ill");
         }
@@ -456,7 +456,7 @@ public final class MarkerText {
         }
     }
 
-    /** Reads a text from its beginning. What cannot be read is null; then ill is the place. */
+    /** Reads a text from its beginning. Where it is ILL, each method stays at that place and answers null or the like. */
     private static final class Reader {
         private final String text;
         private final Name[] names;
@@ -465,7 +465,6 @@ public final class MarkerText {
         private int at = 0;
         private int open = 0;
         private int testCount = 0;
-        private int ill = NONE;
 
         Reader(String text, Name[] names) {
             this.text = text;
@@ -479,7 +478,6 @@ public final class MarkerText {
             }
             skipBlanks();
             if (at < text.length()) {
-                ill = at;
                 return null;
             }
             line.setLength(0);
@@ -502,47 +500,36 @@ public final class MarkerText {
             String word = wordHere();
             boolean isNot = word.equals("not");
             if (isNot || characterHere() == '(') {
-                return isNot ? readNegation() : readBracket();
+                return open < MAX_OPEN ? readOpened(isNot) : null;
             }
             boolean isConstant = word.equals("true") || word.equals("false");
             int name = numberOf(names, word);
             if (testCount >= MAX_TESTS || !isConstant && name == NONE) {
-                return refuse(at);
+                return null;
             }
             testCount++;
             at += word.length();
             return isConstant ? new Constant(word.equals("true")) : readComparison(name);
         }
 
-        private Node readNegation() {
-            if (open >= MAX_OPEN) {
-                return refuse(at);
-            }
-            at += "not".length();
+        private Node readOpened(boolean isNot) {
+            at += isNot ? "not".length() : 1;
             open++;
-            Node inner = readTest();
-            open--;
-            return inner == null ? null : new Negation(inner);
-        }
-
-        private Node readBracket() {
-            if (open >= MAX_OPEN) {
-                return refuse(at);
-            }
-            at++;
-            open++;
-            Node inner = readJoined(Node.OR);
+            Node inner = isNot ? readTest() : readJoined(Node.OR);
             open--;
             if (inner == null) {
                 return null;
             }
-            return takesSign(')') ? inner : refuse(at);
+            if (isNot) {
+                return new Negation(inner);
+            }
+            return takesSign(')') ? inner : null;
         }
 
         private Node readComparison(int name) {
-            Name owner = names[name];
+            Name owner = name >= 0 && name < names.length ? names[name] : null;
             if (owner == null) {
-                return refuse(at);
+                return null;
             }
             line.setLength(0);
             line.append(owner.spelling).append(' ');
@@ -568,7 +555,7 @@ public final class MarkerText {
         private int readOperator() {
             char sign = characterHere();
             if (sign != '=' && sign != '!' && sign != '<' && sign != '>') {
-                return refuseNumber(at);
+                return NONE;
             }
             at++;
             line.append(sign);
@@ -578,7 +565,7 @@ public final class MarkerText {
                 line.append('=');
             }
             if (!isDouble && (sign == '=' || sign == '!')) {
-                return refuseNumber(at);
+                return NONE;
             }
             if (sign == '=') {
                 return Test.SAME;
@@ -602,7 +589,6 @@ public final class MarkerText {
 
         private long[] readList(Name owner) {
             if (!takesSign('[')) {
-                ill = at;
                 return null;
             }
             line.append('[');
@@ -617,13 +603,12 @@ public final class MarkerText {
                     return Arrays.copyOf(values, i + 1);
                 }
                 if (!takesSign(',')) {
-                    ill = at;
                     return null;
                 }
                 line.append(", ");
             }
+            // Whatever comes behind this comma can only be a VALUE too many, or none at all.
             skipBlanks();
-            ill = at;
             return null;
         }
 
@@ -631,7 +616,6 @@ public final class MarkerText {
         private long readValue(Name owner) {
             skipBlanks();
             if (characterHere() != '\'') {
-                ill = at;
                 return NO_VALUE;
             }
             int end = at + 1;
@@ -639,27 +623,16 @@ public final class MarkerText {
                 end++;
             }
             if (end >= text.length()) {
-                ill = text.length();
+                at = text.length();
                 return NO_VALUE;
             }
             long level = owner.levelOf(text, at + 1, end);
             if (level == NO_VALUE) {
-                ill = at;
                 return NO_VALUE;
             }
             line.append(text.substring(at, end + 1));
             at = end + 1;
             return level;
-        }
-
-        private Node refuse(int where) {
-            ill = where;
-            return null;
-        }
-
-        private int refuseNumber(int where) {
-            ill = where;
-            return NONE;
         }
 
         private void skipBlanks() {

@@ -4,7 +4,10 @@ public final class ClassesTest {
         oneName();
         order();
         sets();
+        upwards();
+        sixNames();
         most();
+        again();
         kept();
         noSuch();
         twentyThousand();
@@ -76,6 +79,48 @@ public final class ClassesTest {
         due(check, 2 | 8 | 128 | 1 << 16, 3, 1);
         Check.due("not in the set", check.x.inClass(1, 0), false);
         Check.due("in the set", check.x.inClass(0, 1), true);
+    }
+
+    /** SAMPLES go upwards, in whatever order their VALUES are written or KNOWN, and have the same ones once. */
+    private static void upwards() {
+        Check check = Check.withNames();
+        check.value("1.5", 2, 1);
+        check.value("0.5", 2, 2);
+        check.condition("v=='3' or v in['2','1','2.0','3.0.0']");
+        check.condition("v=='1'");
+        check.condition("v=='0.5'");
+        check.condition("v>'1.5' and v<'2'");
+        due(check, 15, 7, 1, 1, 1, 2);
+    }
+
+    /** Each of 6 names has 4 SAMPLES. */
+    private static void sixNames() {
+        Check check = new Check();
+        for (int i = 0; i < 6; i++) {
+            check.name(String.valueOf((char) ('a' + i)), i % 2, i);
+        }
+        check.condition("a<'1' and b=='1' and c>'1'");
+        check.condition("d!='1' and e<'1' and f=='1'");
+        due(check, 3, 63 * 61, 63 * 3, 61, 3);
+        int[][] samples = {{0, 0, 0, 0, 0, 0}, {0, 0, 0, 0, 1, 2}, {1, 2, 3, 0, 0, 0}, {1, 2, 3, 0, 1, 2}};
+        for (int k = 0; k < 4; k++) {
+            for (int name = 0; name < 6; name++) {
+                Check.due("sample of " + name + " in " + k, check.x.sample(k, name), samples[k][name]);
+            }
+        }
+        check.value("2", 5, 1);
+        check.condition("f<'1'");
+        due(check, 4, 5, 1);
+        Check.due("the last name", check.x.sample(1, 5), 1);
+    }
+
+    /** The answers stay the same for as many calls as an object is used for. */
+    private static void again() {
+        Check check = Check.withNames();
+        check.condition("v in['3','2','1'] and a in['z','y','x'] or b<'m'");
+        for (int i = 0; i < 100; i++) {
+            due(check, 1, 4 * 8 * 8 - 64 - 3 * 9, 64 + 3 * 9);
+        }
     }
 
     /** Eight conditions make up to 256 CLASSES. */

@@ -6,8 +6,8 @@ public final class EnvironmentTest {
         given();
         wrong();
         without();
-        ordered(0, ".", "..", ".0", ".a", "0", "00", "0a", "10", "2", "9", "a", "a.", "a0", "aa", "ab", "abcdefgh",
-                "b", "zzzzzzzz");
+        ordered(0, ".", "..", ".0", ".a", ".z", "0", "00", "0a", "10", "2", "9", "a", "a.", "a0", "aa", "ab", "abcdefgh",
+                "az", "b", "yzzzzzzz", "z", "zzzzzzzz");
         ordered(2, "0", "0.0.1", "0.0.10", "0.1", "0.1.1", "0.10", "0.999.999", "1", "1.9", "1.10", "2", "10", "999",
                 "999.999.999");
         sameVersions();

@@ -8,6 +8,7 @@ public final class ClassesTest {
         sixNames();
         most();
         again();
+        fullOfValues();
         kept();
         noSuch();
         twentyThousand();
@@ -121,6 +122,30 @@ public final class ClassesTest {
         for (int i = 0; i < 100; i++) {
             due(check, 1, 4 * 8 * 8 - 64 - 3 * 9, 64 + 3 * 9);
         }
+    }
+
+    /** More than 512 calls make: eight texts full of VALUES, all of one name, and its KNOWN ones. */
+    private static void fullOfValues() {
+        Check check = new Check();
+        check.name("v", 0, 0);
+        for (int i = 0; i < 6; i++) {
+            check.value("known" + i, 0, i + 1);
+        }
+        for (int c = 0; c < 8; c++) {
+            StringBuilder text = new StringBuilder();
+            for (int i = 0; i < 24; i++) {
+                String value = "'" + (char) ('a' + c) + (char) ('a' + i) + "'";
+                String before = i == 0 ? "v in[" : i % 6 == 0 ? "]or v in[" : ",";
+                text.append(before).append(value);
+            }
+            check.condition(text.append("]").toString(), c);
+        }
+        Check.due("classes", check.x.classes(-1), 9);
+        int sum = 0;
+        for (int k = 0; k < 9; k++) {
+            sum += check.x.many(k);
+        }
+        Check.due("choices", sum, 2 * (8 * 24 + 6) + 2);
     }
 
     /** Eight conditions make up to 256 CLASSES. */

@@ -456,7 +456,7 @@ public final class MarkerText {
         }
     }
 
-    /** Reads a text from its beginning. Where it is ILL, each method stays at that place and answers null or the like. */
+    /** Reads a text from its beginning. If it is ILL, the reader stays at that place, and what it reads is null or none. */
     private static final class Reader {
         private final String text;
         private final Name[] names;

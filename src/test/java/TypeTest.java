@@ -1,9 +1,9 @@
-/** Promise 2: which characters TEXT takes, how many, and that each call that takes it empties it. */
+/** Promise 2: which characters TEXT takes, how many, and which calls leave it. */
 public final class TypeTest {
     public static void main(String[] args) {
         codes();
         length();
-        emptied();
+        left();
         Check.end();
     }
 
@@ -39,28 +39,10 @@ public final class TypeTest {
         Check.due("room again", check.x.type('t'), true);
     }
 
-    private static void emptied() {
+    /** The calls that take TEXT, which empty it, are in TermsTest. */
+    private static void left() {
         Check check = Check.withNames();
-        check.name("x1", 0, Check.ILLEGAL_ARGUMENT);
-        check.ill("", 0);
-        check.name("x", 2, Check.ILLEGAL_ARGUMENT);
-        check.ill("", 0);
-        check.value("X", 0, Check.ILLEGAL_ARGUMENT);
-        check.ill("", 0);
-        check.value("x", 9, Check.ILLEGAL_ARGUMENT);
-        check.ill("", 0);
-        check.give("X", 0, Check.ILLEGAL_ARGUMENT);
-        check.ill("", 0);
-        check.give("x", -1, Check.ILLEGAL_ARGUMENT);
-        check.ill("", 0);
-        check.give("x", 0);
-        check.ill("", 0);
-        check.value("x", 0, 1);
-        check.ill("", 0);
-        check.ill("what", 0);
-        check.ill("", 0);
         check.condition("true", 0);
-        check.ill("", 0);
         check.type("tr");
         check.x.place();
         check.x.holds(0);

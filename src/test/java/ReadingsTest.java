@@ -9,6 +9,8 @@ public final class ReadingsTest {
         valueWithoutSecondQuote();
         seventhValue();
         sampleOfALaterName();
+        sampleOfTheFirstName();
+        sampleBehindTooMany();
         mostTests();
         Check.end();
     }
@@ -59,6 +61,9 @@ public final class ReadingsTest {
         Check.due("the text was not ill", check.x.place(), -1);
         check.ill("a<'8' or", 8);
         check.ill("a<'X'", 2);
+        check.value("X", 0, Check.ILLEGAL_ARGUMENT);
+        check.name("a", 0, Check.ILLEGAL_ARGUMENT);
+        Check.due("the latest condition() stays so", check.x.place(), 2);
         check.condition("true", Check.ILLEGAL_STATE);
         Check.due("the text was not ill", check.x.place(), -1);
         Check.due("no ninth condition", check.x.printed(8, 0), 0);
@@ -119,6 +124,45 @@ public final class ReadingsTest {
         Check.due("classes with b", check.x.classes(2), 2);
         Check.due("b now", check.x.sample(1, 1), 2);
         Check.due("a now", check.x.sample(1, 0), 0);
+    }
+
+    /** A set of no conditions makes a class before there is a name: each name that comes has none in it. */
+    private static void sampleOfTheFirstName() {
+        Check check = new Check();
+        Check.due("one class", check.x.classes(0), 1);
+        for (int i = 0; i < 6; i++) {
+            Check.due("no name " + i + " yet", check.x.sample(0, i), -1);
+            check.name(SIX[i], i % 2, i);
+            Check.due("name " + i, check.x.sample(0, i), 0);
+        }
+        Check.due("no seventh name", check.x.sample(0, 6), -1);
+        Check.due("one choice, as it was", check.x.many(0), 1);
+    }
+
+    /** A classes() that is NONE leaves those before it: neither later names nor later KNOWN VALUES move their SAMPLES. */
+    private static void sampleBehindTooMany() {
+        Check check = new Check();
+        check.name("a", 0, 0);
+        check.name("b", 0, 1);
+        check.condition("b=='x' and not a=='x'", 0);
+        Check.due("two classes", check.x.classes(1), 2);
+        for (int i = 2; i < 6; i++) {
+            check.name(SIX[i], 0, i);
+        }
+        check.value("c", 1, 1);
+        String six = " in['1','2','3','4','5','6']";
+        check.condition("c" + six + "and d" + six + "and e" + six + "and f" + six, 1);
+        Check.due("too many", check.x.classes(2), -1);
+        int[] samples = {0, 2, 0, 0, 0, 0};
+        for (int i = 0; i < 6; i++) {
+            Check.due("name " + i + " in the first class", check.x.sample(0, i), 0);
+            Check.due("name " + i + " in the second class", check.x.sample(1, i), samples[i]);
+        }
+        Check.due("a condition that came later", check.x.inClass(1, 1), false);
+        Check.due("choices of the first class", check.x.many(0), 13);
+        Check.due("choices of the second class", check.x.many(1), 3);
+        Check.due("two classes again", check.x.classes(1), 2);
+        Check.due("c, which is KNOWN, lies below x", check.x.sample(1, 1), 4);
     }
 
     /**
